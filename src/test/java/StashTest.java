@@ -1,0 +1,64 @@
+/** Promise 7: stash tells the blocks of a tree's stash in their order, and NONE behind the last one. */
+public final class StashTest {
+    public static void main(String[] args) {
+        orderInTheStash();
+        stashOfTheMap();
+        placesBehindAndBefore();
+        Check.same("NONE", CoinTree.NONE, -1);
+        Check.end("StashTest");
+    }
+
+    private static void orderInTheStash() {
+        CoinTree x = new CoinTree(2, 1, 2, 0L);
+        Seen.stash(x, 0);
+        x.write(0, 11L, 3, 1);
+        Seen.stash(x, 0);
+        x.write(1, 22L, 3, 1);
+        Seen.stash(x, 0, 1);
+        x.write(2, 33L, 3, 0);
+        Seen.stash(x, 0, 2);
+        x.write(3, 44L, 3, 1);
+        Seen.stash(x, 0, 3);
+        x.write(4, 55L, 3, 1);
+        Seen.stash(x, 0, 1, 4);
+        Check.full("a third block for the stash", () -> x.write(5, 66L, 3, 0));
+        Seen.stash(x, 0, 1, 4);
+        // Block 1 keeps its place: [1, 4] and 3, 0, 2 of the way; 1, 4 and 3 find room, leaf first.
+        x.read(1, 3, 0);
+        Seen.stash(x, 0, 0, 2);
+    }
+
+    private static void stashOfTheMap() {
+        CoinTree x = new CoinTree(5, 1, 3, 0L);
+        x.read(0, 0, 15);
+        Seen.stash(x, 1);
+        x.read(4, 4, 15);
+        Seen.stash(x, 1, 1);
+        x.read(8, 8, 15);
+        Seen.stash(x, 1, 0, 2);
+        x.read(12, 12, 15);
+        Seen.stash(x, 1, 2, 1, 3);
+        Check.full("a fourth map block for the stash", () -> x.read(16, 16, 15));
+        Seen.stash(x, 1, 2, 1, 3);
+        Seen.stash(x, 0);
+    }
+
+    private static void placesBehindAndBefore() {
+        CoinTree x = new CoinTree(5, 1, 40, 0L);
+        x.read(0, 31, 15);
+        x.read(4, 31, 15);
+        for (int tree = 0; tree <= 1; tree++) {
+            int t = tree;
+            for (int k : new int[] {1, 39, 40, 41, 64, Integer.MAX_VALUE}) {
+                Check.same("stash(" + t + ", " + k + ")", x.stash(t, k), CoinTree.NONE);
+            }
+            for (int k : new int[] {-1, Integer.MIN_VALUE}) {
+                Check.noBlock("stash(" + t + ", " + k + ")", () -> x.stash(t, k));
+            }
+        }
+        for (int tree : new int[] {Integer.MIN_VALUE, -1, 2, Integer.MAX_VALUE}) {
+            Check.noBlock("stash(" + tree + ", 0)", () -> x.stash(tree, 0));
+            Check.noBlock("stash(" + tree + ", -1)", () -> x.stash(tree, -1));
+        }
+    }
+}
