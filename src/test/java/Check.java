@@ -34,7 +34,7 @@ final class Check {
         }
     }
 
-    static void noBlock(String what, Call call) {
+    static void noSuch(String what, Call call) {
         throwsExactly(what, IndexOutOfBoundsException.class, call);
     }
 

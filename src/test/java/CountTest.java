@@ -36,7 +36,7 @@ public final class CountTest {
     private static void callsThatThrowAreNotCounted() {
         CoinTree x = new CoinTree(5, 1, 0, 0L);
         x.read(0, 0, 15);
-        Check.noBlock("read(-1, 0, 0)", () -> x.read(-1, 0, 0));
+        Check.noSuch("read(-1, 0, 0)", () -> x.read(-1, 0, 0));
         Check.noLeaf("write(0, 0, -1, 0)", () -> x.write(0, 0L, -1, 0));
         Check.full("write(4, 1, 4, 15)", () -> x.write(4, 1L, 4, 15));
         Check.full("write(4, 1, 4, 15), again", () -> x.write(4, 1L, 4, 15));
@@ -46,7 +46,7 @@ public final class CountTest {
     private static void noSuchWhat() {
         CoinTree x = new CoinTree(2, 1, 2, 0L);
         for (int what : new int[] {Integer.MIN_VALUE, -1, 9, 10, Integer.MAX_VALUE}) {
-            Check.noBlock("count(" + what + ")", () -> x.count(what));
+            Check.noSuch("count(" + what + ")", () -> x.count(what));
         }
     }
 

@@ -64,7 +64,7 @@ public final class ReadTest {
         x.read(63, 3, 1);
         List<Long> before = Seen.all(x);
         for (int block : NO_BLOCKS) {
-            Check.noBlock("read(" + block + ", 0, 0)", () -> x.read(block, 0, 0));
+            Check.noSuch("read(" + block + ", 0, 0)", () -> x.read(block, 0, 0));
         }
         Check.same("all behind wrong blocks", Seen.all(x), before);
     }
@@ -84,10 +84,10 @@ public final class ReadTest {
 
     private static void firstExceptionNamed() {
         CoinTree x = new CoinTree(5, 1, 0, 0L);
-        Check.noBlock("no block, no leaves", () -> x.read(64, 32, 16));
+        Check.noSuch("no block, no leaves", () -> x.read(64, 32, 16));
         x.read(0, 0, 15);
         Check.noLeaf("no leaf, and map tree full", () -> x.read(4, 32, 15));
-        Check.noBlock("no block, and map tree full", () -> x.read(-1, 4, 15));
+        Check.noSuch("no block, and map tree full", () -> x.read(-1, 4, 15));
     }
 
     private static void fullMapTreeChangesNothing() {

@@ -1,5 +1,6 @@
 import java.util.ArrayList;
 import java.util.List;
+import java.util.function.LongUnaryOperator;
 
 /**
  * The document told a second time, without regard to speed: each ask works on copies of both trees
@@ -63,6 +64,7 @@ final class SlowModel {
     Tree[] trees = new Tree[2];
     final int[] mapLeaf = new int[16];
     final List<int[]> traces = new ArrayList<>();
+    int keptFrom;
     int most;
 
     SlowModel(int levels, int slots, int capacity, long key) {
@@ -100,8 +102,8 @@ final class SlowModel {
         }
     }
 
-    /** What the visit told, or null if the tree is full by it. newValue null: the value stays. */
-    private long[] visit(Tree tree, int b, int x, int coin, java.util.function.LongUnaryOperator change) {
+    /** What the visit told, or null if the tree is full by it. */
+    private long[] visit(Tree tree, int b, int x, int coin, LongUnaryOperator change) {
         List<Integer> up = tree.wayUp(x);
         for (int i = up.size() - 1; i >= 0; i--) {
             Node node = tree.nodes.get(up.get(i));
@@ -176,8 +178,6 @@ final class SlowModel {
         most = Math.max(most, trees[0].stash.size());
         return new Answer('v', value[0]);
     }
-
-    private int keptFrom = 0;
 
     private static int number(long value, int k) {
         String hex = String.format("%016x", value);

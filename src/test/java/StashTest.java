@@ -53,12 +53,12 @@ public final class StashTest {
                 Check.same("stash(" + t + ", " + k + ")", x.stash(t, k), CoinTree.NONE);
             }
             for (int k : new int[] {-1, Integer.MIN_VALUE}) {
-                Check.noBlock("stash(" + t + ", " + k + ")", () -> x.stash(t, k));
+                Check.noSuch("stash(" + t + ", " + k + ")", () -> x.stash(t, k));
             }
         }
         for (int tree : new int[] {Integer.MIN_VALUE, -1, 2, Integer.MAX_VALUE}) {
-            Check.noBlock("stash(" + tree + ", 0)", () -> x.stash(tree, 0));
-            Check.noBlock("stash(" + tree + ", -1)", () -> x.stash(tree, -1));
+            Check.noSuch("stash(" + tree + ", 0)", () -> x.stash(tree, 0));
+            Check.noSuch("stash(" + tree + ", -1)", () -> x.stash(tree, -1));
         }
     }
 }

@@ -79,25 +79,25 @@ public final class StoredTest {
     private static void noSuchWord() {
         CoinTree x = new CoinTree(2, 1, 2, KEY);
         for (int tree : new int[] {Integer.MIN_VALUE, -1, 2, Integer.MAX_VALUE}) {
-            Check.noBlock("stored(" + tree + ", 1, 0, 0)", () -> x.stored(tree, 1, 0, 0));
+            Check.noSuch("stored(" + tree + ", 1, 0, 0)", () -> x.stored(tree, 1, 0, 0));
         }
         for (int node : new int[] {Integer.MIN_VALUE, -1, 0, 8, Integer.MAX_VALUE}) {
-            Check.noBlock("stored(0, " + node + ", 0, 0)", () -> x.stored(0, node, 0, 0));
+            Check.noSuch("stored(0, " + node + ", 0, 0)", () -> x.stored(0, node, 0, 0));
         }
         for (int node : new int[] {Integer.MIN_VALUE, -1, 0, 4, 7, Integer.MAX_VALUE}) {
-            Check.noBlock("stored(1, " + node + ", 0, 0)", () -> x.stored(1, node, 0, 0));
+            Check.noSuch("stored(1, " + node + ", 0, 0)", () -> x.stored(1, node, 0, 0));
         }
         for (int slot : new int[] {Integer.MIN_VALUE, -1, 1, 4, Integer.MAX_VALUE}) {
-            Check.noBlock("stored(0, 1, " + slot + ", 0)", () -> x.stored(0, 1, slot, 0));
+            Check.noSuch("stored(0, 1, " + slot + ", 0)", () -> x.stored(0, 1, slot, 0));
         }
         for (int word : new int[] {Integer.MIN_VALUE, -1, 3, Integer.MAX_VALUE}) {
-            Check.noBlock("stored(0, 1, 0, " + word + ")", () -> x.stored(0, 1, 0, word));
+            Check.noSuch("stored(0, 1, 0, " + word + ")", () -> x.stored(0, 1, 0, word));
         }
         CoinTree y = new CoinTree(5, 4, 40, KEY);
         Seen.slot(y, KEY, Seen.at(0, 63, 3), CoinTree.NONE, 0, 0L);
         Seen.slot(y, KEY, Seen.at(1, 31, 3), CoinTree.NONE, 0, 0L);
-        Check.noBlock("stored(0, 64, 0, 0)", () -> y.stored(0, 64, 0, 0));
-        Check.noBlock("stored(1, 32, 0, 0)", () -> y.stored(1, 32, 0, 0));
-        Check.noBlock("stored(0, 63, 4, 0)", () -> y.stored(0, 63, 4, 0));
+        Check.noSuch("stored(0, 64, 0, 0)", () -> y.stored(0, 64, 0, 0));
+        Check.noSuch("stored(1, 32, 0, 0)", () -> y.stored(1, 32, 0, 0));
+        Check.noSuch("stored(0, 63, 4, 0)", () -> y.stored(0, 63, 4, 0));
     }
 }

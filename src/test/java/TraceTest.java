@@ -26,25 +26,25 @@ public final class TraceTest {
     private static void callsThatThrowLeaveNone() {
         CoinTree x = new CoinTree(5, 1, 0, 0L);
         x.read(0, 0, 15);
-        Check.noBlock("read(64, 0, 0)", () -> x.read(64, 0, 0));
+        Check.noSuch("read(64, 0, 0)", () -> x.read(64, 0, 0));
         Check.noLeaf("read(0, 32, 0)", () -> x.read(0, 32, 0));
         Check.full("read(4, 4, 15)", () -> x.read(4, 4, 15));
         Check.same("traces kept", x.count(8), 1);
-        Check.noBlock("trace(0, 1)", () -> x.trace(0, 1));
-        Check.noBlock("trace(1, 1)", () -> x.trace(1, 1));
+        Check.noSuch("trace(0, 1)", () -> x.trace(0, 1));
+        Check.noSuch("trace(1, 1)", () -> x.trace(1, 1));
     }
 
     private static void noSuchTrace() {
         CoinTree x = new CoinTree(2, 1, 2, 0L);
-        Check.noBlock("trace(0, 0) of a new object", () -> x.trace(0, 0));
-        Check.noBlock("trace(1, 0) of a new object", () -> x.trace(1, 0));
+        Check.noSuch("trace(0, 0) of a new object", () -> x.trace(0, 0));
+        Check.noSuch("trace(1, 0) of a new object", () -> x.trace(1, 0));
         x.read(0, 3, 1);
         for (int tree : new int[] {Integer.MIN_VALUE, -1, 2, Integer.MAX_VALUE}) {
-            Check.noBlock("trace(" + tree + ", 0)", () -> x.trace(tree, 0));
+            Check.noSuch("trace(" + tree + ", 0)", () -> x.trace(tree, 0));
         }
         for (int k : new int[] {Integer.MIN_VALUE, -1, 1, 600, Integer.MAX_VALUE}) {
-            Check.noBlock("trace(0, " + k + ")", () -> x.trace(0, k));
-            Check.noBlock("trace(1, " + k + ")", () -> x.trace(1, k));
+            Check.noSuch("trace(0, " + k + ")", () -> x.trace(0, k));
+            Check.noSuch("trace(1, " + k + ")", () -> x.trace(1, k));
         }
     }
 
@@ -61,7 +61,7 @@ public final class TraceTest {
                     Check.same("trace(1, " + k + ") of " + asked, x.trace(1, k), mapLeafOf(asked - kept + k));
                 }
             }
-            Check.noBlock("trace behind the last one", () -> x.trace(0, kept));
+            Check.noSuch("trace behind the last one", () -> x.trace(0, kept));
         }
     }
 

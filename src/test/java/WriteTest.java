@@ -56,8 +56,8 @@ public final class WriteTest {
         x.write(0, 5L, 3, 1);
         List<Long> before = Seen.all(x);
         for (int block : new int[] {Integer.MIN_VALUE, -1, 64, Integer.MAX_VALUE}) {
-            Check.noBlock("write(" + block + ", 1, 0, 0)", () -> x.write(block, 1L, 0, 0));
-            Check.noBlock("write(" + block + ", 1, -1, 2)", () -> x.write(block, 1L, -1, 2));
+            Check.noSuch("write(" + block + ", 1, 0, 0)", () -> x.write(block, 1L, 0, 0));
+            Check.noSuch("write(" + block + ", 1, -1, 2)", () -> x.write(block, 1L, -1, 2));
         }
         for (int coin : new int[] {Integer.MIN_VALUE, -1, 4, Integer.MAX_VALUE}) {
             Check.noLeaf("write(0, 1, " + coin + ", 0)", () -> x.write(0, 1L, coin, 0));

@@ -30,7 +30,7 @@ public final class WrittenTest {
     private static void callsThatThrowWriteNothing() {
         CoinTree x = new CoinTree(5, 1, 0, 0L);
         x.read(0, 0, 15);
-        Check.noBlock("read(64, 0, 0)", () -> x.read(64, 0, 0));
+        Check.noSuch("read(64, 0, 0)", () -> x.read(64, 0, 0));
         Check.noLeaf("read(0, 0, 16)", () -> x.read(0, 0, 16));
         Check.full("read(4, 4, 15)", () -> x.read(4, 4, 15));
         Check.same("written(0, 1)", x.written(0, 1), 1);
@@ -45,13 +45,13 @@ public final class WrittenTest {
             Check.same("written of the last node of tree 0", x.written(0, end - 1), 0);
             Check.same("written of the last node of tree 1", x.written(1, mapEnd - 1), 0);
             for (int node : new int[] {Integer.MIN_VALUE, -1, 0, end, Integer.MAX_VALUE}) {
-                Check.noBlock("written(0, " + node + ")", () -> x.written(0, node));
+                Check.noSuch("written(0, " + node + ")", () -> x.written(0, node));
             }
             for (int node : new int[] {Integer.MIN_VALUE, -1, 0, mapEnd, Integer.MAX_VALUE}) {
-                Check.noBlock("written(1, " + node + ")", () -> x.written(1, node));
+                Check.noSuch("written(1, " + node + ")", () -> x.written(1, node));
             }
             for (int tree : new int[] {Integer.MIN_VALUE, -1, 2, Integer.MAX_VALUE}) {
-                Check.noBlock("written(" + tree + ", 1)", () -> x.written(tree, 1));
+                Check.noSuch("written(" + tree + ", 1)", () -> x.written(tree, 1));
             }
         }
     }
