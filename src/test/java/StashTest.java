@@ -4,6 +4,8 @@ public final class StashTest {
         orderInTheStash();
         stashOfTheMap();
         placesBehindAndBefore();
+        behindTheLastOneOfAStashThatShrank();
+        behindTheLastOneOfAMapStashThatShrank();
         Check.same("NONE", CoinTree.NONE, -1);
         Check.end("StashTest");
     }
@@ -59,6 +61,37 @@ public final class StashTest {
         for (int tree : new int[] {Integer.MIN_VALUE, -1, 2, Integer.MAX_VALUE}) {
             Check.noSuch("stash(" + tree + ", 0)", () -> x.stash(tree, 0));
             Check.noSuch("stash(" + tree + ", -1)", () -> x.stash(tree, -1));
+        }
+    }
+
+    /** The way of leaf 31 takes six blocks when it is read: some of those in the stash, or all of them. */
+    private static void behindTheLastOneOfAStashThatShrank() {
+        for (int blocks = 1; blocks <= 12; blocks++) {
+            CoinTree x = new CoinTree(5, 1, 40, 0L);
+            for (int b = 0; b < blocks; b++) {
+                x.read(b, 31, b / 4);
+            }
+            places(x, 0, blocks - 1);
+            x.read(31, 31, 7);
+            places(x, 0, Math.max(0, blocks + 1 - 6));
+        }
+    }
+
+    private static void behindTheLastOneOfAMapStashThatShrank() {
+        CoinTree x = new CoinTree(5, 1, 40, 0L);
+        for (int m = 0; m < 4; m++) {
+            x.read(4 * m, 4 * m, 15);
+        }
+        places(x, 1, 3);
+        x.read(60, 28, 15);
+        places(x, 1, 0);
+    }
+
+    private static void places(CoinTree x, int tree, int blocks) {
+        Check.same("blocks in stash " + tree, x.count(4 + tree), blocks);
+        for (int k = 0; k <= 12; k++) {
+            Check.isTrue("stash(" + tree + ", " + k + ") of " + blocks,
+                    (x.stash(tree, k) == CoinTree.NONE) == (k >= blocks));
         }
     }
 }
